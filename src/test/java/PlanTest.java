@@ -3,6 +3,7 @@ public final class PlanTest {
     public static void main(String[] args) {
         plans();
         edges();
+        farDown();
         screwIsNotAsked();
         wrongOnes();
         againstAllRows();
@@ -66,6 +67,19 @@ public final class PlanTest {
         plan(with("61c", "x(c>2);d1(1=1)"), "CORK 1 by four pulls", 61, 6, 1);
         plan(with("61c", "g7(1=1);d1(c=7)"), "CORK 7 by seven turns", 61, 9, 0);
         plan(with("61c", "g1(c=5);d1(1=1);g10(c>0);x(u>1)"), "not BROKEN on the way", 61, 5, 0);
+    }
+
+    private static void farDown() {
+        plan(with("00a", "d1(1=1)"), "the YEAR 0", 0, 2, 1);
+        Cork c = with("*861a*960b*659c58d", "f19(1=1);d1(1=1)");
+        c.draw(4, "s9o9o3oc");
+        Cork.due("OUT", c.x.witnessIs(4, 1), 22);
+        plan(c, "the 24th LAYER", 58, 2, 2);
+        c.draw(4, "s");
+        plan(c, "the 24th LAYER, OPEN with FIZZ 19", 58, 1, 4);
+        c.draw(4, "c");
+        c.law("g4(1=1);d1(1=1)");
+        plan(c, "the 24th LAYER by one more shake", 58, 1, 2);
     }
 
     private static void screwIsNotAsked() {

@@ -175,6 +175,8 @@ public final class PuzzlesTest {
 
     private static void wear() {
         Cork c = new Cork();
+        Cork.due("one cork", c.wear(7, 1, 7), 49);
+        Cork.due("one cork too hard", c.wear(6, 0, 7), 0);
         Cork.due("corks", c.wear(10, 0, 5, 4, 3, 2, 1), 4);
         Cork.due("worth", c.wear(10, 1, 5, 4, 3, 2, 1), 25 + 16 + 1);
         Cork.due("the hardest alone", c.wear(9, 1, 9, 3, 3, 3), 81);

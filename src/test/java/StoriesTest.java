@@ -138,6 +138,8 @@ public final class StoriesTest {
         c.draw(0, "po");
         c.draw(1, "po");
         Cork.due("none left then", c.x.peak(0), -2);
+        c.witness(3, "*200b99a");
+        Cork.due("the YEAR 0", c.x.peak(0), 0);
         Cork.due("what 2", c.x.peak(2), -1);
         Cork.due("what -1", c.x.peak(-1), -1);
     }
