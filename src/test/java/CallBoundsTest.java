@@ -8,6 +8,8 @@ public final class CallBoundsTest {
         screwAndSeed();
         witnessesFirstAndLast();
         whats();
+        fullAndEmpty();
+        layersOut();
         heard();
         agree();
         atOdds();
@@ -90,6 +92,66 @@ public final class CallBoundsTest {
         Cork.due("years 1", c.x.years(1, 1), 60);
         Cork.due("peak 0", c.x.peak(0), 60);
         Cork.due("peak 1", c.x.peak(1), 1);
+    }
+
+    /** "LAYERS (24 at most)"; "7, 8: none left -2": what a longer one told before had must not show. */
+    private static void fullAndEmpty() {
+        Cork c = new Cork();
+        c.witness(0, "*8(50h)*9(50g)*6(49f)99p");
+        Cork.due("full: LAYERS", c.x.witnessIs(0, 0), 24);
+        Cork.due("full: OLDEST", c.x.witnessIs(0, 7), 49);
+        Cork.due("full: YOUNGEST is the 24th", c.x.witnessIs(0, 8), 99);
+        Cork.due("full: SINS", c.x.witnessIs(0, 9), 1 << 7 | 1 << 6 | 1 << 5 | 1 << 15);
+        Cork.due("full: the 24th", c.x.layerIs(0, 23, 0), 99);
+        Cork.due("full: no 25th", c.x.layerIs(0, 24, 0), -1);
+        c.witness(0, "*8(50h)*9(50g)*6(50f)00a");
+        Cork.due("full: OLDEST is the 24th", c.x.witnessIs(0, 7), 0);
+        Cork.due("full: YOUNGEST", c.x.witnessIs(0, 8), 50);
+        Cork.due("full: not OPEN", c.x.witnessIs(0, 5), 0);
+        c.law("d9(1=1)");
+        c.draw(0, "p3o");
+        Cork.due("all OUT: OPEN", c.x.witnessIs(0, 5), 1);
+        none(c, "all OUT");
+        c.witness(0, "61c");
+        Cork.due("told anew: OLDEST", c.x.witnessIs(0, 7), 61);
+        Cork.due("told anew: YOUNGEST", c.x.witnessIs(0, 8), 61);
+        Cork.due("told anew: SINS", c.x.witnessIs(0, 9), 4);
+        Cork.due("told anew: no second", c.x.layerIs(0, 1, 0), -1);
+        c.draw(0, "po");
+        none(c, "told shorter, all OUT");
+    }
+
+    private static void none(Cork c, String name) {
+        Cork.due(name + ": OUT", c.x.witnessIs(0, 1), c.x.witnessIs(0, 0));
+        Cork.due(name + ": OLDEST", c.x.witnessIs(0, 7), -2);
+        Cork.due(name + ": YOUNGEST", c.x.witnessIs(0, 8), -2);
+        Cork.due(name + ": SINS", c.x.witnessIs(0, 9), 0);
+        Cork.due(name + ": years", c.x.years(1, 1), -2);
+        Cork.due(name + ": peak", c.x.peak(0), -2);
+        Cork.due(name + ": heard", c.x.heard(128, 0), -2);
+        Cork.due(name + ": who", c.x.who(7), 0);
+        Cork.due(name + ": left", c.x.count(8), 0);
+        Cork.due(name + ": plan", c.x.plan(0, 50, 0), -2);
+    }
+
+    /** "2 OUT (1, 0)": the last that came, and the next behind it. */
+    private static void layersOut() {
+        Cork c = new Cork();
+        c.witness(11, "*8(61c60a59b)");
+        c.law("d1(1=1)");
+        c.draw(11, "p");
+        for (int out = 0; out <= 24; out++) {
+            Cork.due("OUT", c.x.witnessIs(11, 1), out);
+            if (out > 0) {
+                Cork.due("the last of " + out + " OUT", c.x.layerIs(11, out - 1, 2), 1);
+                Cork.due("the first of " + out + " OUT", c.x.layerIs(11, 0, 2), 1);
+            }
+            if (out < 24) {
+                Cork.due("the next behind " + out + " OUT", c.x.layerIs(11, out, 2), 0);
+                Cork.due("the last behind " + out + " OUT", c.x.layerIs(11, 23, 2), 0);
+            }
+            c.draw(11, "o");
+        }
     }
 
     /** "Some SINS (bits, 0 to 65535)"; "-2: not all can be"; "of like ones the least bits". */
@@ -333,6 +395,7 @@ public final class CallBoundsTest {
         }
         Cork.due("much 0, none empty", c.jugs(0, 0, 3, 1, 3, 1, 3, 1), 1);
         Cork.due("much 20 by pours", c.jugs(20, 0, 20, 10, 20, 10, 0, 0), 1);
+        Cork.due("the most ways", c.jugs(0, 1, 15, 1, 19, 11, 20, 13), 55);
         Cork.due("much 20 by two pours", c.jugs(20, 0, 20, 10, 20, 5, 5, 5), 2);
     }
 
@@ -360,6 +423,14 @@ public final class CallBoundsTest {
         eight[15] = 0;
         Cork.due("the one of no worth is last", c.cellar(0, 7, eight), 7);
         Cork.due("a YEAR may be above 50", c.cellar(51, 100, 51, 50), 0);
+        Cork.due("the YEAR of a later one may be above 50", c.cellar(98, 100, 0, 0, 99, 50), 0);
+        Cork.due("the worth of a later one may not", c.cellar(98, 100, 0, 0, 99, 51), -3);
+        c.feed(5, 1, 6, 1, 7, 1, 255, 255);
+        Cork.due("three by six bytes", c.x.cellar(3, 5, 100), 0);
+        c.feed(5, 1, 6, 1, 100, 1, 0, 0);
+        Cork.due("the third by the fifth byte", c.x.cellar(3, 5, 100), -3);
+        c.feed(5, 1, 6, 1, 7, 51, 0, 0);
+        Cork.due("the third by the sixth byte", c.x.cellar(3, 5, 100), -3);
         Cork.due("two of no worth: the least row", c.cellar(0, 0, 99, 0, 0, 0), 0);
         Cork.due("two of no worth: then the other", c.cellar(0, 1, 99, 0, 0, 0), 1);
     }
@@ -410,6 +481,17 @@ public final class CallBoundsTest {
         Cork.due("told still", c.x.count(1), 3);
         Cork.due("RULES still", c.x.count(5), 3);
         Cork.due("X", c.x.count(7) != 0, true);
+        Cork more = new Cork();
+        more.witness(0, "61c60a59b");
+        more.law("d1(1=1)");
+        more.draw(0, "po");
+        Cork.due("keep of one", more.x.keep(), 1);
+        more.draw(0, "2o");
+        Cork.due("CONFESSED ahead of undo", more.x.count(0), 3);
+        more.x.undo();
+        Cork.due("CONFESSED goes back", more.x.count(0), 1);
+        Cork.due("OUT goes back", more.x.witnessIs(0, 1), 1);
+        Cork.due("OPEN stays", more.x.witnessIs(0, 5), 1);
         Cork broken = new Cork();
         broken.witness(0, "61c");
         broken.law("x(1=1)");

@@ -17,6 +17,7 @@ public final class DeedBoundsTest {
         confessed();
         triedAnswers();
         planTwenty();
+        planFar();
         planBroken();
         planNeither();
         Cork.finish("DeedBoundsTest");
@@ -120,6 +121,13 @@ public final class DeedBoundsTest {
         tried(c, "s", 2, 2);
         c.witness(11, "61c");
         Cork.due("k 11", c.tried(11, "s", 2), 12);
+        Cork shorter = with("99p98o97n", "d1(1=1);fy+s+3(n=0)");
+        shorter.witness(0, "61c");
+        tried(shorter, "pos", 2, 3);
+        shorter.draw(0, "po");
+        tried(shorter, "s", 2, 3);
+        shorter.law("g1+y+s(1=1)");
+        tried(shorter, "ctp", 5, 1);
         Cork full = with("*961c*960a*659b", "fn-5(1=1)");
         tried(full, "s", 2, 19);
         full.law("fn-6(1=1)");
@@ -438,6 +446,36 @@ public final class DeedBoundsTest {
         Cork.due("one DEED, the first", none.x.plan(0, 61, 1), 4);
         none.draw(0, "o");
         Cork.due("it is OUT", none.x.plan(0, 61, 0), -2);
+    }
+
+    /** The last LAYERS of a full WITNESS, FIZZ up to 19, a way that is found after many others were looked through. */
+    private static void planFar() {
+        Cork full = with("*901a*902b*403c04d05e", "d1(1=1)");
+        full.draw(0, "p9o9o3o");
+        Cork.due("OUT 21", full.x.witnessIs(0, 1), 21);
+        Cork.due("the 22nd", full.x.plan(0, 3, 0), 1);
+        Cork.due("the 23rd", full.x.plan(0, 4, 0), 2);
+        Cork.due("the 24th", full.x.plan(0, 5, 0), 3);
+        full.draw(0, "o");
+        full.draw(0, "o");
+        Cork.due("OUT 23", full.x.witnessIs(0, 1), 23);
+        Cork.due("the 24th is next", full.x.plan(0, 5, 0), 1);
+        Cork.due("the 24th is next, the first", full.x.plan(0, 5, 1), 4);
+        full.draw(0, "o");
+        Cork.due("none left", full.x.plan(0, 5, 0), -2);
+        Cork nine = with("*901a*902b*303c*304d", "d9(1=1)");
+        Cork.due("three pours for the 24th", nine.x.plan(0, 4, 0), 4);
+        Cork fizz = with("61c60a", "g9(1=1);f19(1=1);a1(1=1)");
+        Cork.due("FIZZ 19 twice", fizz.x.plan(0, 60, 0), 3);
+        fizz.law("f18(z=0);f1(z=18);g9(1=1)");
+        Cork.due("FIZZ 18, then 19", fizz.x.plan(0, 61, 0), 2);
+        Cork.due("FIZZ 18, 19, corked, 19", fizz.x.plan(0, 60, 0), 4);
+        Cork far = with("61c", "g9(1=1);d1(1=1);f1(1=1);a1(1=1)");
+        Cork.due("nine turns, a pull, a pour", far.x.plan(0, 61, 0), 11);
+        Cork.due("nine turns: the first", far.x.plan(0, 61, 1), 0);
+        far.law("g9(1=1);d1(z=10);f1(1=1);a1(1=1)");
+        Cork.due("nineteen shakes", far.x.plan(0, 61, 0), 19);
+        Cork.due("nineteen shakes: the first", far.x.plan(0, 61, 1), 2);
     }
 
     /** "He not BROKEN on the way, the SCREW not asked nor worn, with w 0, i 0". */
