@@ -6,6 +6,7 @@ public final class DeedBoundsTest {
         knownLetters();
         wrapAround();
         dividedByNothing();
+        conditions();
         turns();
         pulls();
         shakes();
@@ -179,6 +180,31 @@ public final class DeedBoundsTest {
         tried(c, "p", 5, 1);
     }
 
+    /** "PARTS with a | .., one of which must hold; a PART: TESTS with an & .., all of which must"; the bounds of < > =. */
+    private static void conditions() {
+        String[] hold = {"1=1", "!1=2", "!!1=1", "(1=1)", "!(1=2)", "1<2", "2>1", "!2<2", "!2>2", "1=1&2=2", "!(1=1&1=2)",
+            "1=2|1=1", "1=1|1=2", "1=2|1=2|1=1", "1=1&(1=2|1=1)", "1=2&1=1|1=1", "1=1|1=2&1=2", "!1=2&!1=2", "!1=1|1=1",
+            "7/1=7", "7%1=0", "7/7=1", "6/7=0", "7%7=0", "6%7=6", "[0-7]/[0-1]=7", "[0-7]%[0-1]=0", "0/7=0", "0%7=0",
+            "2-1-1=0", "9-2*3=3", "9/2*2=8", "9%5*2=8", "2*9/4=4", "[9-2]*3=21", "0-1<0", "0>0-1", "99999=99998+1", "00000=0"};
+        String[] fail = {"1=2", "!1=1", "!!1=2", "(1=2)", "!(1=1)", "2<2", "2>2", "2<1", "1>2", "1=1&1=2", "1=2&1=1",
+            "1=2|1=2", "1=1&1=1&1=2", "1=1&(1=2|1=2)", "1=1&1=2|1=2", "1=2|1=1&1=2", "!1=1&1=1", "!(1=1|1=2)", "!1=2&1=2",
+            "7/1=0", "7%1=1", "1/0=0", "1%0=0", "1=1&1/0=0", "1=2|1/0=0", "!(1/0=0)", "1=2|1%0=0|1=1"};
+        for (String condition : hold) {
+            Cork c = with("*961c", "d1(1=1)");
+            c.law("d2(" + condition + ");d1(1=1)");
+            Cork.due(condition + " holds", c.tried(0, "po", 0), 2);
+            c.law("x(" + condition + ");x(1=2)");
+            Cork.due("x " + condition + " holds", c.tried(0, "p", 3), 7);
+        }
+        for (String condition : fail) {
+            Cork c = with("*961c", "d1(1=1)");
+            c.law("d2(" + condition + ");d1(1=1)");
+            Cork.due(condition + " does not hold", c.tried(0, "po", 0), 1);
+            c.law("x(" + condition + ");x(1=2)");
+            Cork.due("x " + condition + " does not hold", c.tried(0, "p", 3), 9);
+        }
+    }
+
     /** "t: is he not OPEN and SCREW above 0, TURNS are one more (9 at most) ..; with TURNS above 5 then CORK is one less." */
     private static void turns() {
         Cork c = with("61c", "");
@@ -291,6 +317,13 @@ public final class DeedBoundsTest {
         tried(c, "sb", 2, 0);
         tried(c, "psb", 2, 0);
         tried(c, "pssb", 2, 4);
+        c.law("f5(1=1);az(1=1)");
+        tried(c, "2sb", 2, 0);
+        c.law("f5(1=1);ai(1=1)");
+        tried(c, "2sb", 2, 8);
+        // the third DRAW from 1 is 20196: w 6
+        c.law("f5(1=1);aw(1=1)");
+        tried(c, "2sb", 2, 4);
     }
 
     /** "o: is he OPEN: d LAYERS come (as many as are left), FIZZ is one less for each (0 at least)." */
