@@ -7,6 +7,7 @@ public final class DeedBoundsTest {
         wrapAround();
         dividedByNothing();
         conditions();
+        longest();
         turns();
         pulls();
         shakes();
@@ -203,6 +204,44 @@ public final class DeedBoundsTest {
             c.law("x(" + condition + ");x(1=2)");
             Cork.due("x " + condition + " does not hold", c.tried(0, "p", 3), 9);
         }
+    }
+
+    /** "At most 240 bytes": as many TESTS, TERMS, FACTORS as go into them are all asked. */
+    private static void longest() {
+        Cork c = with("*961c", "d1(1=1)");
+        longCondition(c, "1=1&", "1=1", true);
+        longCondition(c, "1=1&", "1=2", false);
+        longCondition(c, "1=2|", "1=1", true);
+        longCondition(c, "1=2|", "1=2", false);
+        longCondition(c, "k=1&n=9|", "k=0", true);
+        longCondition(c, "k=0&n=8|", "k=1", false);
+        longSum(c, "1", "+1-1", "+1", 2);
+        longSum(c, "9", "-1+1", "-8", 1);
+        longSum(c, "3", "*2/2", "*2", 6);
+        longSum(c, "7", "*1", "%4", 3);
+        longSum(c, "1", "+[2-2]", "+4", 5);
+        longSum(c, "1+2*[1", "+1-1", "+3]", 9);
+        longSum(c, "[[[[[[1", "+1-1", "+3]]]]]]", 4);
+    }
+
+    private static void longCondition(Cork c, String round, String end, boolean holds) {
+        StringBuilder text = new StringBuilder("x(");
+        while (text.length() + round.length() + end.length() < 240) {
+            text.append(round);
+        }
+        text.append(end).append(")");
+        Cork.due("law " + text, c.law(text.toString()), 1);
+        Cork.due(round + " .. " + end, c.tried(0, "p", 5), holds ? 0 : 1);
+    }
+
+    private static void longSum(Cork c, String start, String round, String end, int due) {
+        StringBuilder text = new StringBuilder("d").append(start);
+        while (text.length() + round.length() + end.length() + 5 <= 240) {
+            text.append(round);
+        }
+        text.append(end).append("(1=1)");
+        Cork.due("law " + text, c.law(text.toString()), 1);
+        Cork.due(start + " .. " + round + " .. " + end, c.tried(0, "po", 0), due);
     }
 
     /** "t: is he not OPEN and SCREW above 0, TURNS are one more (9 at most) ..; with TURNS above 5 then CORK is one less." */
