@@ -492,6 +492,20 @@ public final class CallBoundsTest {
         Cork.due("CONFESSED goes back", more.x.count(0), 1);
         Cork.due("OUT goes back", more.x.witnessIs(0, 1), 1);
         Cork.due("OPEN stays", more.x.witnessIs(0, 5), 1);
+        Cork late = new Cork();
+        late.x.keep();
+        late.witness(11, "61c60a59b");
+        late.law("g9(c>7);f5(1=1);d2(1=1)");
+        late.draw(11, "sppo");
+        Cork.due("told behind keep: OUT", late.x.witnessIs(11, 1), 2);
+        late.x.undo();
+        int[] first = {3, 0, 0, 9, 0, 0, 0, 59, 61, 7};
+        for (int what = 0; what < first.length; what++) {
+            Cork.due("told behind keep, undone: " + what, late.x.witnessIs(11, what), first[what]);
+        }
+        late.draw(11, "2t");
+        late.x.undo();
+        Cork.due("told behind keep, undone: TURNS", late.x.witnessIs(11, 4), 0);
         Cork broken = new Cork();
         broken.witness(0, "61c");
         broken.law("x(1=1)");

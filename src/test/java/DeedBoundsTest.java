@@ -184,7 +184,9 @@ public final class DeedBoundsTest {
     /** "PARTS with a | .., one of which must hold; a PART: TESTS with an & .., all of which must"; the bounds of < > =. */
     private static void conditions() {
         String[] hold = {"1=1", "!1=2", "!!1=1", "(1=1)", "!(1=2)", "1<2", "2>1", "!2<2", "!2>2", "1=1&2=2", "!(1=1&1=2)",
-            "1=2|1=1", "1=1|1=2", "1=2|1=2|1=1", "1=1&(1=2|1=1)", "1=2&1=1|1=1", "1=1|1=2&1=2", "!1=2&!1=2", "!1=1|1=1",
+            "1=2|1=1", "1=1|1=2", "1=2|1=2|1=1", "1=1|1=2|1=2", "1=2|1=1|1=2",
+            "1=1|1/0=0|1=2", "1=1|1=2&1/0=0|1/0=0", "1=1|1=2&1=2|1=2", "1=2&1/0=0|1=1|1/0=0",
+            "1=1&(1=2|1=1)", "1=2&1=1|1=1", "1=1|1=2&1=2", "!1=2&!1=2", "!1=1|1=1",
             "7/1=7", "7%1=0", "7/7=1", "6/7=0", "7%7=0", "6%7=6", "[0-7]/[0-1]=7", "[0-7]%[0-1]=0", "0/7=0", "0%7=0",
             "2-1-1=0", "9-2*3=3", "9/2*2=8", "9%5*2=8", "2*9/4=4", "[9-2]*3=21", "0-1<0", "0>0-1", "99999=99998+1", "00000=0"};
         String[] fail = {"1=2", "!1=1", "!!1=2", "(1=2)", "!(1=1)", "2<2", "2>2", "2<1", "1>2", "1=1&1=2", "1=2&1=1",
@@ -533,7 +535,12 @@ public final class DeedBoundsTest {
         Cork.due("OUT 23", full.x.witnessIs(0, 1), 23);
         Cork.due("the 24th is next", full.x.plan(0, 5, 0), 1);
         Cork.due("the 24th is next, the first", full.x.plan(0, 5, 1), 4);
-        full.draw(0, "o");
+        full.law("d1(z<19);f19(1=1);a1(1=1)");
+        full.draw(0, "s");
+        Cork.due("OUT 23, FIZZ 19", full.x.witnessIs(0, 2), 19);
+        Cork.due("OUT 23, FIZZ 19: a breath, a pour", full.x.plan(0, 5, 0), 2);
+        Cork.due("OUT 23, FIZZ 19: a breath, the first", full.x.plan(0, 5, 1), 3);
+        full.draw(0, "bo");
         Cork.due("none left", full.x.plan(0, 5, 0), -2);
         Cork nine = with("*901a*902b*303c*304d", "d9(1=1)");
         Cork.due("three pours for the 24th", nine.x.plan(0, 4, 0), 4);
