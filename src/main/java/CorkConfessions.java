@@ -1176,8 +1176,10 @@ public final class CorkConfessions {
                 case POUR:
                     pour(i, w);
                     break;
-                default:
+                case CORK:
                     state.corks();
+                    break;
+                default:
                     break;
             }
         }
